@@ -63,7 +63,7 @@ public final class LostWords {
     }
 
     public int table() {
-        if (!reader.isRead()) {
+        if (!reader.readTable()) {
             return NONE;
         }
         told = reader.handOver(told);
@@ -143,11 +143,11 @@ public final class LostWords {
     }
 
     public boolean undo() {
-        return play.isTakenBack();
+        return play.takeBack();
     }
 
     public boolean redo() {
-        return play.isDoneAgain();
+        return play.doAgain();
     }
 
     public int ways(int slip, int from) {
@@ -290,7 +290,7 @@ public final class LostWords {
     }
 
     public boolean untell(int hint) {
-        return seating.isUntoldNow(hint);
+        return seating.untellNow(hint);
     }
 
     public int later(int by) {
@@ -413,7 +413,7 @@ public final class LostWords {
         }
 
         int at(int place) {
-            return has(place) ? items[place] : NONE;
+            return place >= 0 && place < count && place < items.length ? items[place] : NONE;
         }
 
         boolean hasRoom() {
@@ -923,7 +923,7 @@ public final class LostWords {
             place = NONE;
         }
 
-        boolean isRead() {
+        boolean readTable() {
             fault = 0;
             place = NONE;
             draft.clear();
@@ -1304,7 +1304,7 @@ public final class LostWords {
             return old;
         }
 
-        boolean isTakenBack() {
+        boolean takeBack() {
             if (here < 1) {
                 return false;
             }
@@ -1313,7 +1313,7 @@ public final class LostWords {
             return true;
         }
 
-        boolean isDoneAgain() {
+        boolean doAgain() {
             if (here >= end) {
                 return false;
             }
@@ -1695,13 +1695,15 @@ public final class LostWords {
         private int senseWithout(Told told, Line row, int set) {
             int sense = 0;
             int ahead = NONE;
+            int bit = bitOf(row, 0);
             for (int place = 0; place < row.count; place++) {
-                if ((set & bitOf(row, place)) == 0) {
+                if ((set & bit) == 0) {
                     int word = row.at(place);
                     // Ahead of the first WORD stands NONE, of which nothing is told: 0.
                     sense += told.weightOf(ahead, word);
                     ahead = word;
                 }
+                bit >>= 1;
             }
             return sense;
         }
@@ -1726,15 +1728,36 @@ public final class LostWords {
 
     /** By which ROWS of one WORD more a ROW can be mended. */
     static final class Mender {
+        private final Line left;
         private final Line trial;
         private final Line found;
 
         Mender() {
+            left = new Line(MAX_ROW);
             trial = new Line(MAX_ROW);
             found = new Line(MAX_ROW);
         }
 
         int layMended(Told told, Line line, int mark, Line out) {
+            int count = countMended(told, line, mark);
+            out.copy(found);
+            return count;
+        }
+
+        int safePlaces(Told told, Line row) {
+            int mark = told.markOf(row);
+            int places = 0;
+            for (int place = 0; place < row.count; place++) {
+                left.copy(row);
+                left.drop(place);
+                if (countMended(told, left, mark) == 1) {
+                    places |= 1 << place;
+                }
+            }
+            return places;
+        }
+
+        private int countMended(Told told, Line line, int mark) {
             int count = 0;
             found.clear();
             int shifted = shiftedMark(told, line);
@@ -1745,34 +1768,6 @@ public final class LostWords {
                         trial.copy(line);
                         trial.insert(place, word);
                         keepFirst();
-                    }
-                }
-                shifted -= told.worthOf(line.at(place));
-            }
-            out.copy(found);
-            return count;
-        }
-
-        int safePlaces(Told told, Line row) {
-            int mark = told.markOf(row);
-            int places = 0;
-            for (int place = 0; place < row.count; place++) {
-                trial.copy(row);
-                trial.drop(place);
-                if (countMended(told, trial, mark) == 1) {
-                    places |= 1 << place;
-                }
-            }
-            return places;
-        }
-
-        private int countMended(Told told, Line line, int mark) {
-            int count = 0;
-            int shifted = shiftedMark(told, line);
-            for (int place = 0; place <= line.count; place++) {
-                for (int word = 0; word < told.wordCount; word++) {
-                    if (isFirstPlace(line, place, word) && fits(told, shifted, place, word, mark)) {
-                        count++;
                     }
                 }
                 shifted -= told.worthOf(line.at(place));
@@ -1879,7 +1874,7 @@ public final class LostWords {
             return hintCount - 1;
         }
 
-        boolean isUntoldNow(int hint) {
+        boolean untellNow(int hint) {
             if (hint < 0 || hint >= hintCount || untoldAt[hint] != NONE) {
                 return false;
             }
