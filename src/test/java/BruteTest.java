@@ -253,9 +253,9 @@ public final class BruteTest {
                 Check.lying("common", x, common);
                 if (slips[s].length + slips[t].length <= 7) {
                     List<int[]> found = shortest(slips[s], slips[t]);
+                    Check.due("sources", x.sources(s, t), found.size());
                     Check.due("source", x.source(s, t), found.get(0).length);
                     Check.lying("source", x, found.get(0));
-                    Check.due("sources", x.sources(s, t), found.size());
                 }
             }
             Check.due("comes", x.comes(s), coming);

@@ -148,6 +148,12 @@ public final class CompareTest {
         Check.due("strange(3)", x.strange(3), 0);
         Check.due("strange(4)", x.strange(4), -1);
         Check.due("strange(-1)", x.strange(-1), -1);
+        LostWords twelve = Check.told(WORDS + "row a b c d a b c d a b c d; slip d d d; slip b c d a b c d a;");
+        Check.due("apart from twelve", twelve.apart(0, -1), 9);
+        Check.due("eight apart from twelve", twelve.apart(-1, 1), 4);
+        Check.due("twelve apart from twelve", twelve.apart(-1, -1), 0);
+        Check.due("twelve from twelve", twelve.ways(-1, -1), 1);
+        Check.due("strange to twelve", twelve.strange(1), 0);
         LostWords none = Check.told(WORDS + "slip b c d a;");
         Check.due("apart from nothing", none.apart(0, -1), 4);
         Check.due("strange without a row", none.strange(0), 4);

@@ -121,6 +121,11 @@ public final class LossTest {
         Check.row("the row stays", x, 1, 0, 2, 0, 1);
         Check.due("last without a row", Check.told(TEXT).last(1), -1);
         Check.due("will without a row", Check.told(TEXT).will(2, 5), 0);
+        LostWords twelve = Check.told(TEXT + "row b b b b b b b b b b b a; slip b; slip a;");
+        Check.due("behind eleven rounds", twelve.becomes(1, 0), 11);
+        Check.due("behind eleven rounds by the other rule", twelve.becomes(2, 1), 11);
+        Check.due("will behind eleven", twelve.will(2, 10), -2);
+        Check.due("will behind twelve", twelve.will(2, 12), 0);
         int foretold = x.last(0);
         int sense = x.will(0, 3);
         for (int i = 0; i < 3; i++) {
