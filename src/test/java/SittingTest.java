@@ -70,6 +70,7 @@ public final class SittingTest {
             Check.due("hint " + i, x.hint(2, 0, true), i);
         }
         Check.due("hint 30", x.hint(2, 0, true), -1);
+        Check.due("seats by 30 hints", x.seats(0), 2);
         Check.due("hints", x.about(8), 30);
         x.untell(5);
         Check.due("an untold one is a hint still", x.hint(2, 0, true), -1);

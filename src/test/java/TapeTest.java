@@ -277,5 +277,12 @@ public final class TapeTest {
         }
         LostWords x = Check.told("word a worth 3;row a;" + most + ";");
         Check.due("30 units with 7 nots each", x.miss(0), 0);
+        for (int i = 0; i < 5; i++) {
+            Check.feed(x, "word a worth 3;row a;" + most + ";");
+            x.table();
+        }
+        Check.feed(x, "word a worth 3;row a;miss " + "1+".repeat(29) + "worth;");
+        x.table();
+        Check.due("nothing is left of older formulas", x.miss(0), 32);
     }
 }
