@@ -222,13 +222,26 @@ public final class EdgeCompareTest {
         LostWords y = Check.told(WORDS + "slip c a;slip a c;slip d;slip c a;");
         Check.due("a or c", y.common(0, 1), 1);
         Check.lying("a, not c", y, 0);
+        LostWords again = Check.told(WORDS + "slip a b;slip a b a;slip b a b;slip b b;slip b;");
+        int[][] want = {{0, 1}, {0, 1, 0}, {0, 1}, {1}, {1}};
+        for (int slip = 0; slip < want.length; slip++) {
+            Check.due("with a b a", again.common(1, slip), want[slip].length);
+            Check.lying("with a b a", again, want[slip]);
+            Check.due("a b a with it", again.common(slip, 1), want[slip].length);
+            Check.lying("a b a with it", again, want[slip]);
+        }
+        Check.due("b b with b b", again.common(3, 3), 2);
+        Check.due("b with b b", again.common(4, 3), 1);
+        Check.due("b b with b", again.common(3, 4), 1);
         Check.says(26, "COMMON: how many WORDS;");
         Check.due("one twice", x.common(0, 0), 4);
         Check.due("like ones", y.common(0, 3), 2);
         Check.due("none", y.common(0, 2), 0);
         Check.lying("none", y);
-        LostWords most = Check.told(WORDS + "slip a b c d a b c d;slip a b c d a b c d;");
+        LostWords most = Check.told(WORDS + "slip a b c d a b c d;slip a b c d a b c d;slip a;slip b;");
         Check.due("eight", most.common(0, 1), 8);
+        Check.due("none behind eight", most.common(2, 3), 0);
+        Check.due("eight again", most.common(0, 1), 8);
         Check.says(26, "NONE if one can't be. It lies there then (behind NONE: nothing).");
         Check.lying("eight", most, 0, 1, 2, 3, 0, 1, 2, 3);
         for (int no : NO_SLIPS) {
@@ -278,6 +291,12 @@ public final class EdgeCompareTest {
         Check.due("two", x.strange(2), 2);
         Check.due("all", x.strange(3), 2);
         Check.due("what is there twice", x.strange(4), 3);
+        LostWords twice = Check.told(WORDS + "row a a;slip a;slip a a a;");
+        Check.due("one of two", twice.strange(0), 0);
+        Check.due("three of two", twice.strange(1), 1);
+        LostWords behind = Check.told(WORDS + "row b;slip a b c d a b c d;slip a;");
+        behind.common(0, 0);
+        Check.due("one of one, behind what had eight in common", behind.strange(1), 1);
         Check.due("without a ROW", Check.told(WORDS + "slip a b;").strange(0), 2);
         LostWords twelve = Check.told(WORDS + "row a b a b a b a b a b a b;slip b b b b b b b b;");
         Check.due("of twelve", twelve.strange(0), 2);

@@ -177,6 +177,11 @@ public final class EdgeLossTest {
         duel(Check.told(TEXT), 1, GAP, GAP);
         duel(Check.told(TEXT + "row a b;"), 3, GAP, GAP);
         duel(Check.told(TEXT + "row a b;"), 2, 0, 0);
+        LostWords fewer = Check.told(TEXT + "row a b b b;");
+        Check.due("of four", fewer.duel(2, 0), 5);
+        fewer.leave(3);
+        fewer.leave(2);
+        duel(fewer, 2, 0, 0);
     }
 
     private static void becoming() {
@@ -196,6 +201,12 @@ public final class EdgeLossTest {
         Check.due("behind eleven by the greatest", far.becomes(2, 1), 11);
         Check.says(32, "NONE if it never is, or one can't be.");
         Check.due("never", x.becomes(1, 2), -1);
+        LostWords near = Check.told(TEXT + "row b a c a;slip b c a;slip c a a;slip b a c;slip b a;slip b c;");
+        for (int slip = 0; slip < 3; slip++) {
+            Check.due("one WORD is another one: never", near.becomes(1, slip), -1);
+        }
+        Check.due("two", near.becomes(1, 3), 2);
+        Check.due("the last is another one: never", near.becomes(1, 4), -1);
         Check.due("never what is longer", Check.told(TEXT + "row a;slip a a;").becomes(1, 0), -1);
         Check.due("never without a ROW", Check.told(TEXT + "slip a;").becomes(0, 0), -1);
         for (int rule : NO_RULES) {
@@ -336,6 +347,13 @@ public final class EdgeLossTest {
         // All worths are like: each ROW of nine has a MARK of 3 times 45, 35.
         Check.due("all ROWS of nine: 3 times 9, less eight that are made twice", x.mended(0, 35), 19);
         Check.lying("the first of them", x, 0, 1, 0, 1, 0, 1, 0, 1, 0);
+        // b a by 10: c b a, and b a b, which is ahead of it by its first WORD.
+        LostWords ahead = Check.told("word a worth 1;word b worth 2;word c worth 3;slip b a;");
+        Check.due("c b a, b a b", ahead.mended(0, 10), 2);
+        Check.lying("b a b", ahead, 1, 0, 1);
+        LostWords third = Check.told("word a worth 1;word b worth 3;word c worth 2;slip a b a;");
+        Check.due("b a b a, a c b a, a b a c", third.mended(0, 18), 3);
+        Check.lying("a b a c is ahead by its second WORD", third, 0, 1, 0, 2);
         LostWords y = Check.told("word a worth 3;word b worth 3;word c worth 3;slip a b;");
         Check.due("a b and one more", y.mended(0, 18), 7);
         Check.lying("a a b is ahead of a b a", y, 0, 0, 1);

@@ -59,6 +59,9 @@ public final class EdgeSeatsTest {
         Check.due("HINTS have no part in it", hinted.sittings(), 6);
         Check.says(38, "The first lies there then, SLIP by SLIP as they sat (behind 0: nothing).");
         Check.lying("the first in spite of a HINT", hinted, 0, 1, 2);
+        hinted.seats(0);
+        Check.due("once more", hinted.sittings(), 6);
+        Check.lying("once more", hinted, 0, 1, 2);
         Check.due("two longest", Check.told(WORDS + "slip b;slip a b;slip a;slip a b;").sittings(), 0);
         LostWords x = Check.told(WORDS + "slip b;slip a b;slip b;slip a b;");
         Check.due("two longer, two shorter", x.sittings(), 4);

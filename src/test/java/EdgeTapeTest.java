@@ -120,11 +120,49 @@ public final class EdgeTapeTest {
         Check.due("no slips", x.about(0), 0);
         Check.due("no row", x.about(2), 0);
         Check.due("no seed", x.about(4), 0);
+        older();
+        longer();
         Check.says(4, "how many SLIPS;");
         for (int slips = 0; slips <= 5; slips++) {
             LostWords y = new LostWords();
             Check.feed(y, "word a worth 1;" + "slip a;".repeat(slips));
             Check.due("table()", y.table(), slips);
+        }
+    }
+
+    /** Nothing of the TABLE before the last one is in a TABLE. */
+    private static void older() {
+        LostWords x = Check.told(TEXT);
+        for (int table = 0; table < 3; table++) {
+            Check.feed(x, "word c worth 9;word d worth 8;");
+            x.table();
+            Check.due("an older beside", x.beside(0, 1), 0);
+            Check.due("older besides", x.about(5), 0);
+            Check.due("an older draw", x.about(4), 0);
+            Check.due("an older row", x.about(2), 0);
+            Check.due("older units", x.about(11), 0);
+            x.put(0, 1);
+            Check.due("an older miss", x.miss(0), 8);
+            Check.feed(x, "word c worth 9;word d worth 8;slip c;slip d;row d;miss worth*2;");
+            Check.due("table()", x.table(), 2);
+            Check.due("an older slip", x.size(0), 1);
+            Check.due("older slips that came", x.comes(0), 1);
+            Check.due("a newer miss", x.miss(0), 16);
+            Check.feed(x, TEXT);
+            Check.due("TEXT again", x.table(), 3);
+            Check.due("its first slip", x.size(0), 2);
+            Check.due("its miss", x.miss(1), 9);
+            Check.due("its units", x.about(11), 2);
+        }
+    }
+
+    /** However often a long miss was told, the last one counts. */
+    private static void longer() {
+        LostWords x = new LostWords();
+        for (int table = 0; table < 30; table++) {
+            Check.feed(x, "word a worth 0;row a;miss " + "1+".repeat(29) + table + ";");
+            x.table();
+            Check.due("miss(0) of TABLE " + table, x.miss(0), 29 + table);
         }
     }
 
