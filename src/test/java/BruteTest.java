@@ -11,23 +11,31 @@ public final class BruteTest {
     private static int[][] weights;
     private static int[] row;
     private static int[][] slips;
+    private static String told;
 
     public static void main(String[] args) {
         for (int n = 0; n < 250; n++) {
-            LostWords x = draw(1 + DRAW.nextInt(4), n % 5 == 0 ? 12 : 7, n % 3 == 0 ? 3 : 5);
-            rows(x);
-            pairs(x);
-            if (n % 4 == 0) {
-                triples(x);
+            draw(1 + DRAW.nextInt(4), n % 5 == 0 ? 12 : 7, n % 3 == 0 ? 3 : 5);
+            rows(fresh());
+            for (int s = 0; s < slips.length; s++) {
+                pairs(fresh(), s);
             }
-            losses(x);
-            mending(x);
-            seats(x);
+            if (n % 4 == 0) {
+                triples(fresh());
+            }
+            losses(fresh());
+            mending(fresh());
+            seats(fresh());
         }
         Check.finish();
     }
 
-    private static LostWords draw(int words, int mostRow, int mostSlip) {
+    /** An object is good for 512 calls: each part of a test has one of its own. */
+    private static LostWords fresh() {
+        return Check.told(told);
+    }
+
+    private static void draw(int words, int mostRow, int mostSlip) {
         StringBuilder text = new StringBuilder();
         worths = new int[words];
         for (int w = 0; w < words; w++) {
@@ -54,7 +62,7 @@ public final class BruteTest {
             slips[s] = isPart ? part(slips[s - 1]) : drawRow(1 + DRAW.nextInt(mostSlip), words);
             text.append("slip").append(names(slips[s])).append(';');
         }
-        return Check.told(text.toString());
+        told = text.toString();
     }
 
     private static int[] part(int[] whole) {
@@ -241,25 +249,23 @@ public final class BruteTest {
         return best.first().replace(" ", "").chars().map(c -> c - 'a').toArray();
     }
 
-    private static void pairs(LostWords x) {
-        for (int s = 0; s < slips.length; s++) {
-            int coming = 0;
-            for (int t = 0; t < slips.length; t++) {
-                coming |= comes(slips[t], slips[s]) ? 1 << t : 0;
-                Check.due("ways", x.ways(t, s), ways(slips[t], slips[s]));
-                Check.due("apart", x.apart(t, s), edits(slips[t], slips[s]));
-                int[] common = longest(slips[s], slips[t]);
-                Check.due("common", x.common(s, t), common.length);
-                Check.lying("common", x, common);
-                if (slips[s].length + slips[t].length <= 7) {
-                    List<int[]> found = shortest(slips[s], slips[t]);
-                    Check.due("sources", x.sources(s, t), found.size());
-                    Check.due("source", x.source(s, t), found.get(0).length);
-                    Check.lying("source", x, found.get(0));
-                }
+    private static void pairs(LostWords x, int s) {
+        int coming = 0;
+        for (int t = 0; t < slips.length; t++) {
+            coming |= comes(slips[t], slips[s]) ? 1 << t : 0;
+            Check.due("ways", x.ways(t, s), ways(slips[t], slips[s]));
+            Check.due("apart", x.apart(t, s), edits(slips[t], slips[s]));
+            int[] common = longest(slips[s], slips[t]);
+            Check.due("common", x.common(s, t), common.length);
+            Check.lying("common", x, common);
+            if (slips[s].length + slips[t].length <= 7) {
+                List<int[]> found = shortest(slips[s], slips[t]);
+                Check.due("sources", x.sources(s, t), found.size());
+                Check.due("source", x.source(s, t), found.get(0).length);
+                Check.lying("source", x, found.get(0));
             }
-            Check.due("comes", x.comes(s), coming);
         }
+        Check.due("comes", x.comes(s), coming);
     }
 
     private static void triples(LostWords x) {

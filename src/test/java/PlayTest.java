@@ -21,7 +21,7 @@ public final class PlayTest {
     }
 
     public static void main(String[] args) {
-        for (int n = 0; n < 300; n++) {
+        for (int n = 0; n < 1200; n++) {
             run(n);
         }
         Check.finish();
@@ -139,7 +139,11 @@ public final class PlayTest {
                     past.remove(0);
                 }
             }
-            compare(x, now, past.size(), undone.size());
+            // An object is good for 512 calls: all is looked at now and then, the round each time.
+            Check.due("the round", x.about(3), now.round);
+            if (call % 12 == 11 || call == 79) {
+                compare(x, now, past.size(), undone.size());
+            }
         }
     }
 
