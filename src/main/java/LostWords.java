@@ -447,7 +447,7 @@ public final class LostWords {
                 return NONE;
             }
             int item = items[place];
-            for (int i = place + 1; i < count; i++) {
+            for (int i = place + 1; i < count && i < items.length; i++) {
                 items[i - 1] = items[i];
             }
             count--;
@@ -696,7 +696,7 @@ public final class LostWords {
 
         int result() {
             depth = 0;
-            for (int i = 0; i < stepCount; i++) {
+            for (int i = 0; i < stepCount && i < MAX_STEPS; i++) {
                 int step = steps[i];
                 if (step == Tape.NUMBER) {
                     push(numbers[i]);
@@ -1899,7 +1899,7 @@ public final class LostWords {
             firstOrder.clear();
             Arrays.fill(tally, 0);
             Arrays.fill(mustBeAhead, 0);
-            for (int hint = 0; hint < hintCount; hint++) {
+            for (int hint = 0; hint < hintCount && hint < MAX_HINTS; hint++) {
                 int behind = after[hint];
                 if (isKnown(hint, k) && behind >= 0 && behind < mustBeAhead.length) {
                     mustBeAhead[behind] |= 1 << sooner[hint];
