@@ -193,6 +193,15 @@ public final class EdgeTapeTest {
             Check.due("a box is empty", x.back(box), -1);
         }
         Check.due("the next hint is the first", told(x).hint(0, 1, true), 0);
+        LostWords hinted = Check.told(TEXT);
+        for (int i = 0; i < 30; i++) {
+            hinted.hint(1, 0, true);
+        }
+        Check.due("no seats by these", hinted.seats(0), 0);
+        told(hinted);
+        Check.due("none of these counts", hinted.seats(0), 2);
+        hinted.hint(1, 2, true);
+        Check.due("one that is told then", hinted.seats(0), 1);
     }
 
     private static LostWords told(LostWords x) {
