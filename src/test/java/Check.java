@@ -59,7 +59,8 @@ final class Check {
         x.end(before + text.length());
     }
 
-    private static int four(String text, int from) {
+    /** Four bytes of a text as a number for feed, blanks behind its end. */
+    static int four(String text, int from) {
         int number = 0;
         for (int i = from; i < from + 4; i++) {
             number = number << 8 | (i < text.length() ? text.charAt(i) & 255 : ' ');

@@ -61,18 +61,10 @@ public final class ModelTest {
     private static boolean tell(String text) throws ReflectiveOperationException {
         boolean isAlike = call("end", 0);
         for (int from = 0; from < text.length() && isAlike; from += 20) {
-            isAlike = call("feed", four(text, from), four(text, from + 4), four(text, from + 8),
-                four(text, from + 12), four(text, from + 16));
+            isAlike = call("feed", Check.four(text, from), Check.four(text, from + 4), Check.four(text, from + 8),
+                Check.four(text, from + 12), Check.four(text, from + 16));
         }
         return isAlike && call("end", text.length()) && call("table") && call("fault", 0) && call("fault", 1);
-    }
-
-    private static int four(String text, int from) {
-        int number = 0;
-        for (int i = from; i < from + 4; i++) {
-            number = number << 8 | (i < text.length() ? text.charAt(i) : ' ');
-        }
-        return number;
     }
 
     private static boolean any() throws ReflectiveOperationException {
